@@ -1,6 +1,4 @@
-import java.util.ArrayList;
 import java.util.Arrays;
-import java.util.List;
 
 /**
  * A second reading of the document, for the tests to compare with: written for likeness to its words,
@@ -39,13 +37,13 @@ final class Reference {
     // ---- bytes and bits
 
     static int[] join(int[]... parts) {
-        List<Integer> all = new ArrayList<>();
+        int[] all = {};
         for (int[] part : parts) {
-            for (int b : part) {
-                all.add(b);
-            }
+            int from = all.length;
+            all = Arrays.copyOf(all, from + part.length);
+            System.arraycopy(part, 0, all, from, part.length);
         }
-        return all.stream().mapToInt(Integer::intValue).toArray();
+        return all;
     }
 
     static int[] bytesOf(long x) {
@@ -129,39 +127,31 @@ final class Reference {
         return bits;
     }
 
-    private static int at(int a, int b) {
-        return Math.floorMod(a, 5) + 5 * Math.floorMod(b, 5);
-    }
+    private static final int[] UP = {1, 2, 3, 4, 0};
+    private static final int[] DOWN = {4, 0, 1, 2, 3};
 
     private static long[] round(long[] lane, int r) {
         long[] c = new long[5];
-        for (int a = 0; a < 5; a++) {
-            for (int b = 0; b < 5; b++) {
-                c[a] ^= lane[at(a, b)];
+        for (int i = 0; i < 25; i++) {
+            c[i % 5] ^= lane[i];
+        }
+        long[] moved = new long[25];
+        for (int b = 0; b < 5; b++) {
+            for (int a = 0; a < 5; a++) {
+                long mixed = lane[a + 5 * b] ^ c[DOWN[a]] ^ Long.rotateLeft(c[UP[a]], 1);
+                moved[b + 5 * ((2 * a + 3 * b) % 5)] = Long.rotateLeft(mixed, R[a + 5 * b]);
             }
         }
-        long[] first = new long[25];
-        long[] second = new long[25];
-        long[] third = new long[25];
-        for (int a = 0; a < 5; a++) {
-            for (int b = 0; b < 5; b++) {
-                first[at(a, b)] = lane[at(a, b)] ^ c[(a + 4) % 5] ^ Long.rotateLeft(c[(a + 1) % 5], 1);
-            }
-        }
-        for (int a = 0; a < 5; a++) {
-            for (int b = 0; b < 5; b++) {
-                second[at(b, 2 * a + 3 * b)] = Long.rotateLeft(first[at(a, b)], R[at(a, b)]);
-            }
-        }
-        for (int a = 0; a < 5; a++) {
-            for (int b = 0; b < 5; b++) {
-                third[at(a, b)] = second[at(a, b)] ^ (~second[at(a + 1, b)] & second[at(a + 2, b)]);
+        long[] after = new long[25];
+        for (int b = 0; b < 25; b += 5) {
+            for (int a = 0; a < 5; a++) {
+                after[a + b] = moved[a + b] ^ (~moved[UP[a] + b] & moved[UP[UP[a]] + b]);
             }
         }
         for (int j = 0; j <= 6; j++) {
-            third[0] ^= (long) K[7 * r + j] << ((1 << j) - 1);
+            after[0] ^= (long) K[7 * r + j] << ((1 << j) - 1);
         }
-        return third;
+        return after;
     }
 
     // ---- polynomials
