@@ -8,6 +8,7 @@ import java.util.Random;
  */
 public final class VerifyingEdgesTest {
     private static final int MOST_MESSAGES = 1000000;
+    private static final int MOST_SIGNATURES = 5000;
     private static final int[] SOME_SEAL = {1, 2, 3, 4, 5, 6, 7, 8};
 
     private final int[] publicKey;
@@ -144,6 +145,15 @@ public final class VerifyingEdgesTest {
         x.dueChanged("other counts", 60, 1);
     }
 
+    private static void oneHint() {
+        VerifyingEdgesTest x = new VerifyingEdgesTest(ordinaryKey()).hint(0, 0).search();
+        x.due("a hint at place 0", true);
+        // All bytes behind none are 0 here, so that only the order of the counts speaks against it.
+        x.dueChanged("byte 60 above byte 61", 61, 0);
+        x.dueChanged("a place twice", 60, 2, 61, 2);
+        x.dueChanged("the other polynomial", 60, 0);
+    }
+
     private static void noHints() {
         VerifyingEdgesTest x = new VerifyingEdgesTest(allBytes(200)).search();
         x.due("no hints", true);
@@ -155,12 +165,45 @@ public final class VerifyingEdgesTest {
         x.dueChanged("no hints, byte 61", 61, 2);
     }
 
+    /** A seal that differs in one byte alone and has the same ball: only the byte itself speaks against it. */
+    private static void everyByteOfTheSeal() {
+        Reference reference = new Reference();
+        reference.key(2026L);
+        VerifyingEdgesTest x = new VerifyingEdgesTest(reference.publicKey);
+        x.message = reference.message;
+        for (int at = 0; at < 8; at++) {
+            int other = -1;
+            for (int with = 0; with < MOST_SIGNATURES && other < 0; with++) {
+                reference.sign(with, 30);
+                other = otherByteOfSameBall(reference.signature, at);
+            }
+            Due.due("another byte " + at + " with the same ball is found", other >= 0, true);
+            x.signature = reference.signature;
+            x.due("the seal", true);
+            x.dueChanged("a byte of the seal", at, other);
+        }
+    }
+
+    private static int otherByteOfSameBall(int[] signature, int at) {
+        int[] seal = Arrays.copyOf(signature, 8);
+        long[] c = Reference.ballOf(seal);
+        for (int b = 0; b < 256; b++) {
+            seal[at] = b;
+            if (b != signature[at] && Arrays.equals(Reference.ballOf(seal), c)) {
+                return b;
+            }
+        }
+        return -1;
+    }
+
     public static void main(String[] args) {
         anyPublicKey();
         sizeOfZ();
         hintsOfOnePolynomial();
         hintsOfBothPolynomials();
+        oneHint();
         noHints();
+        everyByteOfTheSeal();
         Due.end();
     }
 }
