@@ -26,15 +26,16 @@ public final class RoomTest {
 
     public static void main(String[] args) {
         dearCalls(new ShortVectorSigner());
-        made();
+        long start = made();
         long before = made();
+        long measure = before - start;
         ShortVectorSigner x = new ShortVectorSigner();
         long between = made();
         dearCalls(x);
         long after = made();
-        Due.due("an object takes more bytes than is allowed", between - before > ALLOWED_FOR_OBJECT, false);
-        Due.due("calls take more bytes than is allowed", after - between > ALLOWED_FOR_CALLS, false);
-        System.out.println("an object: " + (between - before) + " bytes, its calls: " + (after - between));
+        Due.due("an object takes more bytes than is allowed", between - before - measure > ALLOWED_FOR_OBJECT, false);
+        Due.due("calls take more bytes than is allowed", after - between - measure > ALLOWED_FOR_CALLS, false);
+        System.out.println("an object: " + (between - before - measure) + " bytes, its calls: " + (after - between - measure));
         Due.end();
     }
 }
