@@ -441,7 +441,10 @@ public final class ShortVectorSigner {
         static void fillBall(Hasher hasher, int[] seal, int[] polynomial) {
             hasher.begin();
             hasher.takeFirst(seal, SHORT_BYTES);
-            int[] stream = hasher.finish();
+            fillSigns(hasher.finish(), polynomial);
+        }
+
+        private static void fillSigns(int[] stream, int[] polynomial) {
             Arrays.fill(polynomial, 0);
             int next = 1;
             for (int i = BALL_FIRST; i < N; i++) {

@@ -11,6 +11,11 @@ final class Reference {
     static final class Try {
         int[] seal;
         long[][] z;
+        int greatestY;
+        int leastY;
+        int[] lows = new int[32];
+        long[][] u;
+        long[][] v;
         int sizeZ;
         int greatestLow;
         int leastLow;
@@ -346,11 +351,16 @@ final class Reference {
         t.z = plus(y, times(c, s), 1);
         long[][] u = plus(w, times(c, e), -1);
         long[][] v = times(c, t0);
+        t.u = u;
+        t.v = v;
         t.sizeZ = size(t.z);
         t.sizeV = size(v);
         t.hints = new int[2][16];
         for (int p = 0; p < 2; p++) {
             for (int i = 0; i < 16; i++) {
+                t.lows[16 * p + i] = lowOf(u[p][i]);
+                t.greatestY = Math.max(t.greatestY, (int) y[p][i]);
+                t.leastY = Math.min(t.leastY, (int) y[p][i]);
                 t.greatestLow = Math.max(t.greatestLow, lowOf(u[p][i]));
                 t.leastLow = Math.min(t.leastLow, lowOf(u[p][i]));
                 t.hints[p][i] = hintOf(-v[p][i], u[p][i] + v[p][i]);
@@ -392,14 +402,19 @@ final class Reference {
         return -2;
     }
 
-    /** The 32 corrected coefficients of A z - c * 256 * t1, packed. */
-    static int[] correctedHighs(int[] publicKey, long[][] z, long[] c, int[][] hints) {
+    /** A z - c * 256 * t1. */
+    static long[][] uncorrected(int[] publicKey, long[][] z, long[] c) {
         long[] t1 = unpack(15, Arrays.copyOfRange(publicKey, 8, 68));
         long[][] scaled = new long[2][16];
         for (int i = 0; i < 32; i++) {
             scaled[i / 16][i % 16] = mod(256 * t1[i]);
         }
-        long[][] w = plus(timesMatrix(Arrays.copyOf(publicKey, 8), z), times(c, scaled), -1);
+        return plus(timesMatrix(Arrays.copyOf(publicKey, 8), z), times(c, scaled), -1);
+    }
+
+    /** Its 32 coefficients, corrected and packed. */
+    static int[] correctedHighs(int[] publicKey, long[][] z, long[] c, int[][] hints) {
+        long[][] w = uncorrected(publicKey, z, c);
         long[] highs = new long[32];
         for (int i = 0; i < 32; i++) {
             highs[i] = correctedOf(hints[i / 16][i % 16], w[i / 16][i % 16]);
