@@ -151,7 +151,8 @@ public final class InsideTest {
         Due.sentence("BALL: when there is none, j is 0");
         int[] stream = new int[136];
         Arrays.fill(stream, 1, 33, 255);
-        stream[0] = 0;
+        // These lie behind byte 32 and would be taken if they counted.
+        Arrays.fill(stream, 33, 136, 9);
         dueBall(stream, "[1, 0, 0, 0, 0, 0, 0, 0, 0, 0, 0, 0, 0, 1, 1, 1]");
         stream[0] = 0b0101;
         dueBall(stream, "[1, 0, 0, 0, 0, 0, 0, 0, 0, 0, 0, 0, 0, -1, 1, -1]");
@@ -160,6 +161,43 @@ public final class InsideTest {
         dueBall(stream, "[1, 0, 0, 0, 0, 0, 0, -1, 0, 0, 0, 0, 0, 0, 1, -1]");
         stream[31] = 0xF8;
         dueBall(stream, "[1, 0, 0, 0, 0, 0, 0, 1, -1, 0, 0, 0, 0, 0, 0, -1]");
+    }
+
+    // ---- sizes
+
+    private static void dueCentered(long x, int want) throws ReflectiveOperationException {
+        Due.due("centered(" + x + ")", (int) call(null, "Ring", "centered", x), want);
+    }
+
+    private static void dueSize(int want, int... coefficients) throws ReflectiveOperationException {
+        for (int place : new int[] {0, 15, 16, 31}) {
+            int[] vector = new int[32];
+            for (int i = 0; i < coefficients.length; i++) {
+                vector[(place + i) % 32] = coefficients[i];
+            }
+            Due.due("size of " + Arrays.toString(coefficients) + " at " + place,
+                    (int) call(null, "Ring", "size", vector), want);
+        }
+    }
+
+    private static void sizes() throws ReflectiveOperationException {
+        Due.sentence("SIZE: taken as the number from -(q - 1) / 2 to (q - 1) / 2 that it is mod q");
+        dueCentered(4190208L, 4190208);
+        dueCentered(4190209L, -4190208);
+        dueCentered(-4190208L, -4190208);
+        dueCentered(-4190209L, 4190208);
+        dueCentered(0L, 0);
+        dueCentered(Q - 1L, -1);
+        dueCentered(Q, 0);
+        dueCentered(-Q, 0);
+        Due.sentence("SIZE: the greatest absolute value of its 32 coefficients");
+        dueSize(0);
+        dueSize(1, 1);
+        dueSize(1, Q - 1);
+        dueSize(7, 5, Q - 7);
+        dueSize(7, 7, -5);
+        dueSize(4190208, 4190208);
+        dueSize(4190208, 4190209);
     }
 
     // ---- the size of v
@@ -196,6 +234,7 @@ public final class InsideTest {
             fewUniform();
             fewSmall();
             noBallByte();
+            sizes();
             sizeOfV();
         } catch (InvocationTargetException thrown) {
             thrown.getCause().printStackTrace(System.out);
