@@ -51,7 +51,7 @@ public final class InsideTest {
     }
 
     private static void fullBlock() throws ReflectiveOperationException {
-        Due.sentence("H: the bytes x (at most 135); the byte behind the last one is 31, and byte 135 is XORed with 128");
+        Due.sentence("H: the bytes x (at most 135); the byte behind the last one is 31, byte 135 is XORed with 128");
         Due.due("H of 134 bytes", hashOf(134), HASH_OF_134);
         Due.due("H of 135 bytes", hashOf(135), HASH_OF_135);
     }
@@ -85,7 +85,8 @@ public final class InsideTest {
         stream[3 * place + 2] = number >> 16;
     }
 
-    private static void dueSample(String name, int[] stream, int filled, int number) throws ReflectiveOperationException {
+    private static void dueSample(String name, int[] stream, int filled, int number)
+            throws ReflectiveOperationException {
         int[] row = new int[48];
         Arrays.fill(row, 77);
         call(null, "Samples", name, stream, row, 16);

@@ -32,10 +32,11 @@ public final class RoomTest {
         ShortVectorSigner x = new ShortVectorSigner();
         long between = made();
         dearCalls(x);
-        long after = made();
-        Due.due("an object takes more bytes than is allowed", between - before - measure > ALLOWED_FOR_OBJECT, false);
-        Due.due("calls take more bytes than is allowed", after - between - measure > ALLOWED_FOR_CALLS, false);
-        System.out.println("an object: " + (between - before - measure) + " bytes, its calls: " + (after - between - measure));
+        long forObject = between - before - measure;
+        long forCalls = made() - between - measure;
+        Due.due("an object takes more bytes than is allowed", forObject > ALLOWED_FOR_OBJECT, false);
+        Due.due("calls take more bytes than is allowed", forCalls > ALLOWED_FOR_CALLS, false);
+        System.out.println("an object: " + forObject + " bytes, its calls: " + forCalls);
         Due.end();
     }
 }

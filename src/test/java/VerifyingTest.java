@@ -34,7 +34,7 @@ public final class VerifyingTest {
         19712, 15665, 16408, 53824, 15230, 52464, 16158, 42961,
         24358, 6823, 23422, 13555, 10311, 4404, 4369, 10131
     };
-    /** A place, a long, and a byte that makes another seal with the same ball: only the byte itself speaks against it. */
+    /** A place, a long, and a byte that makes another seal with the same ball: only the byte speaks against it. */
     private static final int[][] OTHER_SEALS = {
         {0, 65, 169}, {1, 50, 242}, {2, 16, 193}, {3, 79, 54}, {4, 595, 42}, {5, 23, 18}, {6, 269, 68}, {7, 37, 186}
     };
@@ -256,7 +256,7 @@ public final class VerifyingTest {
 
     // ---- each corrected by its hint
 
-    /** Another z whose coefficient at some place has this HIGH (-1: any) and a LOW from least to greatest; its hint is 1. */
+    /** A z whose coefficient at some place has this HIGH (-1: any) and a LOW from least to greatest; its hint is 1. */
     private static VerifyingTest corrected(int high, int least, int greatest, int known) {
         long[] c = Reference.ballOf(SOME_SEAL);
         for (int choice = 0; choice < MOST_MESSAGES; choice++) {
