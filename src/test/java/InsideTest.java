@@ -151,6 +151,7 @@ public final class InsideTest {
     private static void noBallByte() throws ReflectiveOperationException {
         Due.sentence("BALL: when there is none, j is 0");
         int[] stream = new int[136];
+        // 15 fits i = 15, but the bytes were left out when i = 12 found none: so the words are read here.
         Arrays.fill(stream, 1, 33, 255);
         // These lie behind byte 32 and would be taken if they counted.
         Arrays.fill(stream, 33, 136, 9);
